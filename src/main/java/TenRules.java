@@ -245,7 +245,7 @@ public final class TenRules {
         if (!told.hasTheorem(t) || side < 0 || side > 1) {
             return refused(TROUBLE_NONE_SUCH);
         }
-        int concl = arena.rightOf(told.theoremNode(t));
+        int concl = told.conclOf(t);
         if (!terms.isEquation(concl)) {
             return refused(TROUBLE_NOT_SO);
         }
@@ -347,7 +347,8 @@ public final class TenRules {
         int first = conv.read();
         int t = NONE;
         if (first >= 0 && tokens.take(';')) {
-            t = termReader.readAll(TermReader.ANY);
+            t = termReader.readWhole(TermReader.ANY);
+            tokens.takeEnd();
         }
         if (!wasReadWell()) {
             return NONE;
@@ -363,13 +364,12 @@ public final class TenRules {
             return refused(TROUBLE_NUMBER);
         }
         int first = conv.read();
-        if (first >= 0) {
-            tokens.takeEnd();
-        }
+        tokens.takeEnd();
         if (!wasReadWell()) {
             return NONE;
         }
-        return concluded(rewritten(first, told.theoremNode(t)), BY_MORE);
+        int so = engine.run(first, told.conclOf(t));
+        return concluded(kernel.makeEqmp(so, told.theoremNode(t)), BY_MORE);
     }
 
     public int normal(int n) {
@@ -379,14 +379,24 @@ public final class TenRules {
 
     public int decide(int n) {
         int t = readTerm(n);
-        return t < 0 ? NONE : concluded(decided(t), BY_MORE);
+        if (t < 0) {
+            return NONE;
+        }
+        if (!terms.isEquation(t)) {
+            return concluded(NOT_SO, BY_MORE);
+        }
+        int first = conv.tellNormal();
+        int left = engine.run(first, terms.leftSide(t));
+        int right = left < 0 ? left : engine.run(first, terms.rightSide(t));
+        return concluded(kernel.makeJoined(left, right), BY_MORE);
     }
 
     public int unfold(int t) {
         if (!opensTheorems(t, t)) {
             return NONE;
         }
-        return concluded(rewritten(conv.tellUnfold(), told.theoremNode(t)), BY_MORE);
+        int so = engine.run(conv.tellUnfold(), told.conclOf(t));
+        return concluded(kernel.makeEqmp(so, told.theoremNode(t)), BY_MORE);
     }
 
     // ---- what is told
@@ -480,7 +490,8 @@ public final class TenRules {
         if (!opens(n)) {
             return refused(TROUBLE_NUMBER);
         }
-        int t = termReader.readAll(TermReader.ANY);
+        int t = termReader.readWhole(TermReader.ANY);
+        tokens.takeEnd();
         return wasReadWell() ? t : NONE;
     }
 
@@ -517,29 +528,6 @@ public final class TenRules {
         int number = told.addTheorem(made, NONE, maker);
         told.settle();
         return answered(number);
-    }
-
-    private int rewritten(int first, int theorem) {
-        return kernel.makeEqmp(engine.run(first, arena.rightOf(theorem)), theorem);
-    }
-
-    private int decided(int t) {
-        if (!terms.isEquation(t)) {
-            return NOT_SO;
-        }
-        int first = conv.tellNormal();
-        int left = engine.run(first, terms.leftSide(t));
-        if (left < 0) {
-            return left;
-        }
-        int right = engine.run(first, terms.rightSide(t));
-        if (right < 0) {
-            return right;
-        }
-        if (kernel.rightOf(left) != kernel.rightOf(right)) {
-            return NOT_SO;
-        }
-        return kernel.makeTrans(left, kernel.makeSym(right));
     }
 
     /**
@@ -677,14 +665,16 @@ public final class TenRules {
             }
         }
 
+        /** A type has neither VARS nor CONSTS, so that those of both parts are a lambda's, too. */
         private void measure(int id) {
             int number = rights[id];
             int left = lefts[id] >= 0 && lefts[id] < id ? lefts[id] : 0;
             int right = number >= 0 && number < id ? number : 0;
+            boolean joins = kinds[id] >= APPLIED;
+            vars[id] = joins ? vars[left] | vars[right] : 0;
+            consts[id] = joins ? consts[left] | consts[right] : 0;
             sizes[id] = 1;
             looses[id] = 0;
-            vars[id] = 0;
-            consts[id] = 0;
             switch (kinds[id]) {
                 case NOTHING:
                     sizes[id] = 0;
@@ -693,7 +683,7 @@ public final class TenRules {
                     sizes[id] = sizes[left] + sizes[right];
                     break;
                 case VAR:
-                    vars[id] = varBit(number);
+                    vars[id] = 1 << Math.min(number, MOST_VARS);
                     break;
                 case CONST:
                     consts[id] = 1 << number;
@@ -704,29 +694,20 @@ public final class TenRules {
                 case APPLIED:
                     sizes[id] = 1 + sizes[left] + sizes[right];
                     looses[id] = Math.max(looses[left], looses[right]);
-                    putBits(id, left, right);
                     break;
                 case LAMBDA:
                     sizes[id] = 1 + sizes[right];
                     looses[id] = Math.max(0, looses[right] - 1);
-                    putBits(id, right, right);
                     break;
                 case HYP:
                     sizes[id] = 1 + sizes[right];
-                    putBits(id, left, right);
                     break;
                 case THEOREM:
                     sizes[id] = sizes[right];
-                    putBits(id, left, right);
                     break;
                 default:
                     break;
             }
-        }
-
-        private void putBits(int id, int one, int other) {
-            vars[id] = vars[one] | vars[other];
-            consts[id] = consts[one] | consts[other];
         }
 
         /** The VARS that stand for opened variables share one bit: they are many. */
@@ -826,10 +807,6 @@ public final class TenRules {
 
         int variable(int number, int type) {
             return arena.node(Arena.VAR, type, number, type);
-        }
-
-        int index(int number, int type) {
-            return arena.node(Arena.INDEX, type, number, type);
         }
 
         int equal(int type) {
@@ -1009,18 +986,28 @@ public final class TenRules {
             return number >= 0 && number < constCount ? constNames[number] : 0;
         }
 
+        int varType(int v) {
+            return v >= 0 && v < varCount ? varTypes[v] : Arena.TRUTH;
+        }
+
+        int constType(int c) {
+            return c >= 0 && c < constCount ? constTypes[c] : Arena.TRUTH;
+        }
+
         int varNode(int v) {
-            int type = hasVar(v) ? varTypes[v] : Arena.TRUTH;
-            return arena.node(Arena.VAR, type, v, type);
+            return arena.node(Arena.VAR, varType(v), v, varType(v));
         }
 
         int constNode(int c) {
-            int type = hasConst(c) ? constTypes[c] : Arena.TRUTH;
-            return arena.node(Arena.CONST, type, c, type);
+            return arena.node(Arena.CONST, constType(c), c, constType(c));
         }
 
         int theoremNode(int t) {
             return hasTheorem(t) ? theoremNodes[t] : NONE;
+        }
+
+        int conclOf(int t) {
+            return arena.rightOf(theoremNode(t));
         }
 
         int makerOf(int t) {
@@ -1445,6 +1432,17 @@ public final class TenRules {
             return makeEqmp(wholes, makeRefl(left));
         }
 
+        /** Of l = m, r = m: l = r; no rule, either. */
+        int makeJoined(int t, int u) {
+            if (t < 0 || u < 0) {
+                return t < 0 ? t : u;
+            }
+            if (rightOf(t) != rightOf(u)) {
+                return NOT_SO;
+            }
+            return makeTrans(t, makeSym(u));
+        }
+
         /** The THEOREM of the CONCL and of the HYPS in the row, if there is room for it. */
         private int made(int rule, int concl) {
             if (rowLength > MOST_HYPS || arena.sizeOf(concl) > MOST_SIZE || !spend()) {
@@ -1732,15 +1730,7 @@ public final class TenRules {
             this.told = told;
         }
 
-        /** A TERM behind which nothing more comes. */
-        int readAll(int need) {
-            int t = readWhole(need);
-            if (t >= 0) {
-                tokens.takeEnd();
-            }
-            return t;
-        }
-
+        /** A TERM that stands in no other one. */
         int readWhole(int need) {
             int first = tokens.place;
             boundCount = 0;
@@ -1819,7 +1809,7 @@ public final class TenRules {
             for (int i = boundCount - 1; i >= 0; i--) {
                 if (boundNames[i] == name) {
                     tokens.advance();
-                    return terms.index(boundCount - 1 - i, boundTypes[i]);
+                    return arena.node(Arena.INDEX, boundTypes[i], boundCount - 1 - i, boundTypes[i]);
                 }
             }
             int v = told.varNamed(name);
@@ -1828,7 +1818,9 @@ public final class TenRules {
                 return tokens.refuse(FAULT_NAME, tokens.place);
             }
             tokens.advance();
-            return v >= 0 ? told.varNode(v) : told.constNode(c);
+            int type = v >= 0 ? told.varType(v) : told.constType(c);
+            return v >= 0 ? arena.node(Arena.VAR, type, v, type)
+                : arena.node(Arena.CONST, type, c, type);
         }
 
         private int readLambda(int nested) {
@@ -2413,11 +2405,7 @@ public final class TenRules {
             if (states[frame] == 0) {
                 return goLeft(frame, 1, conv.firstOf(nodes[frame]));
             }
-            if (answer < 0) {
-                return done(answer);
-            }
-            int beside = kernel.makeRefl(arena.rightOf(subjects[frame]));
-            return done(kernel.makeComb(answer, beside));
+            return endLeft(frame, answer);
         }
 
         private int stepRight(int frame, int answer) {
@@ -2431,8 +2419,7 @@ public final class TenRules {
             if (states[frame] == 0) {
                 return goIn(frame, 1, conv.firstOf(nodes[frame]));
             }
-            opened--;
-            return done(kernel.makeAbs(kept[frame], answer));
+            return endIn(frame, answer);
         }
 
         private int stepOnce(int frame, int answer) {
@@ -2449,11 +2436,11 @@ public final class TenRules {
                     }
                     return goLeft(frame, 2, node);
                 case 2:
-                    return answer < 0 ? goRight(frame, 3, node) : stepLeft(frame, answer);
+                    return answer < 0 ? goRight(frame, 3, node) : endLeft(frame, answer);
                 case 3:
-                    return stepRight(frame, answer);
+                    return done(kernel.makeComb(kept[frame], answer));
                 default:
-                    return stepIn(frame, answer);
+                    return endIn(frame, answer);
             }
         }
 
@@ -2462,6 +2449,14 @@ public final class TenRules {
                 return done(NOT_SO);
             }
             return ask(frame, state, node, arena.leftOf(subjects[frame]));
+        }
+
+        private int endLeft(int frame, int answer) {
+            if (answer < 0) {
+                return done(answer);
+            }
+            int beside = kernel.makeRefl(arena.rightOf(subjects[frame]));
+            return done(kernel.makeComb(answer, beside));
         }
 
         private int goRight(int frame, int state, int node) {
@@ -2487,6 +2482,11 @@ public final class TenRules {
             kept[frame] = terms.variable(MOST_VARS + opened, arena.leftOf(t));
             opened++;
             return ask(frame, state, node, terms.fill(arena.rightOf(t), 0, kept[frame], 0));
+        }
+
+        private int endIn(int frame, int answer) {
+            opened--;
+            return done(kernel.makeAbs(kept[frame], answer));
         }
 
         private int byTheorem(int theorem, int t) {

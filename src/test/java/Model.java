@@ -205,9 +205,12 @@ final class Model {
         return all;
     }
 
-    static final class NoRoom extends RuntimeException { }
+    static final class NoRoom extends RuntimeException {
+        private static final long serialVersionUID = 1;
+    }
 
     static final class Fault extends RuntimeException {
+        private static final long serialVersionUID = 1;
         final int number;
         final int place;
 
