@@ -1251,6 +1251,7 @@ public final class TenRules {
             Arrays.fill(counts, 0);
         }
 
+        /** A THEORY has fewer LINES than one of them may use RULES: calls alone begin anew. */
         void mark() {
             System.arraycopy(counts, 0, markedCounts, 0, RULES);
             spent = 0;
@@ -1258,10 +1259,6 @@ public final class TenRules {
 
         void goBack() {
             System.arraycopy(markedCounts, 0, counts, 0, RULES);
-        }
-
-        void startLine() {
-            spent = 0;
         }
 
         int countOf(int rule) {
@@ -1596,7 +1593,7 @@ public final class TenRules {
                     int length = lettersFrom(i, end);
                     good = length <= NAME_LETTERS;
                     addName(i, good ? length : 0);
-                    i += length - 1;
+                    i = Math.max(i, i + length - 1);
                 } else if (sign != ' ') {
                     good = SIGNS.indexOf((char) sign) >= 0;
                     add(good ? sign : BAD, i, NONE);
@@ -1913,7 +1910,6 @@ public final class TenRules {
 
         void readLines() {
             for (int i = 0; i < TAPE_BYTES; i++) {
-                kernel.startLine();
                 switch (tokens.wordHere()) {
                     case Tokens.WORD_VAR:
                         readVar();
@@ -2542,7 +2538,8 @@ public final class TenRules {
 
     /** What was written last. */
     private static final class Writer {
-        // The longest: a TYPE of 13 CONSTS' worth of \ in a row, 1064 letters, 4253 bytes.
+        // The longest: the TYPE of twelve \ round a CONST by def, whose TERM is twelve \ round
+        // another such CONST, and so on: below 1100 letters, each with at most three signs more.
         private static final int ROOM = 4608;
         private static final int TOP_POWER = 14348907;
 

@@ -134,6 +134,7 @@ public final class PromisesTest {
         byTheorems();
         counting();
         budget();
+        manyFrames();
         rewriting();
         normalForms();
         deciding();
@@ -278,6 +279,15 @@ public final class PromisesTest {
         faulty(x, "var z0:i", 1, 5);
         faulty(x, "var z:i\n", 1, 7);
         faulty(x, "var z:i,", 1, 7);
+        for (char sign = 0; sign < 256; sign++) {
+            boolean begins = sign == ' ' || ";:=>.()\\".indexOf(sign) >= 0 || sign >= 'a' && sign <= 'z';
+            if (!begins) {
+                faulty(x, "var z:i " + sign, 1, 8);
+                faulty(x, "var z:i" + sign + ";", 1, 7);
+                faulty(x, "thm a refl x" + sign, 1, 12);
+                faulty(x, sign + "var z:i", 1, 0);
+            }
+        }
         faulty(x, "thm a q x", 1, 6);
         faulty(x, "thm a var x", 1, 6);
         faulty(x, "thm a refl", 1, 10);
@@ -509,8 +519,21 @@ public final class PromisesTest {
         due("fewer hyps", x.better(8), 6);
         due("more hyps are not", x.better(6), 6);
         due("another's hyps are not", x.same(7, 8), 1);
-        due("lambdas by level", x.theory(lay(x, "thm q refl \\a:i.a;thm r refl \\b:i.b")), 11);
-        due("alike", x.same(9, 10), 1);
+        x.deduct(7, 4);
+        due("another's hyps", x.theorem(x.deduct(4, 7), 0), 2);
+        TenRules y = told("var p:o;var q:o;const n:o>o;thm a assume p;thm b assume q;"
+            + "thm c assume n p;thm d deduct c b;thm e eqmp d c;thm f deduct a b;thm g eqmp f a");
+        due("q by n p, n p = q", y.theorem(4, 0), 2);
+        due("q by p, q", y.theorem(6, 0), 2);
+        due("the second hyp is another", y.better(6), 1);
+        due("q alone is better than both", y.better(4), 1);
+        y = told("var p:o;var q:o;const n:o>o;thm a assume p;thm c assume n p;thm b assume q;"
+            + "thm d deduct c b;thm e eqmp d c;thm f deduct a b;thm g eqmp f a;"
+            + "thm h deduct c g;thm i eqmp h c");
+        due("q", concl(y, 8), "q");
+        due("the first with q's hyp among them", y.better(8), 2);
+        due("lambdas by level", x.theory(lay(x, "thm q refl \\a:i.a;thm r refl \\b:i.b")), 13);
+        due("alike", x.same(11, 12), 1);
     }
 
     // ---- promise 12
@@ -648,13 +671,13 @@ public final class PromisesTest {
         TenRules x = told("var v:o");
         String lambdas = "\\a:o.\\b:o.\\c:o.\\d:o.\\e:o.\\f:o.\\g:o.\\h:o.\\i:o.\\j:o.\\k:o.";
         int all = x.assume(lay(x, "v"));
-        for (String bound : new String[] {"c", "k", "b"}) {
+        for (String bound : new String[] {"c", "k", "j", "b"}) {
             String text = "(" + lambdas + bound + ")=(" + lambdas + "v)";
             all = weakened(x, all, x.assume(lay(x, text)));
         }
-        due("four hyps", x.theorem(all, 0), 4);
-        int[] order = {1, 10, 2};
-        for (int i = 0; i < 3; i++) {
+        due("five hyps", x.theorem(all, 0), 5);
+        int[] order = {1, 10, 2, 9};
+        for (int i = 0; i < 4; i++) {
             String outer = "\\o.".repeat(11);
             due("levels " + i, hyp(x, all, i), "((= " + outer + order[i] + ") " + outer + "v)");
         }
@@ -736,6 +759,17 @@ public final class PromisesTest {
         refused("eqmp", x, x.eqmp(0, 2), 5);
         refused("eqmp", x, x.eqmp(1, 1), 5);
         refused("eqmp", x, x.eqmp(3, 1), 1);
+        TenRules z = told("var p:o;var q:o;const h:o>o;const n:o>o>o;const k:o;thm a assume h p;"
+            + "thm b assume p=q;thm c assume n p q;thm d assume p;thm e refl h;thm f assume n k p");
+        refused("trans of what is no equation", z, z.trans(0, 1), 5);
+        refused("trans with what is no equation", z, z.trans(1, 2), 5);
+        refused("trans with what is no equation", z, z.trans(3, 1), 5);
+        refused("comb of what is no equation", z, z.comb(0, 1), 5);
+        refused("comb with what is no equation", z, z.comb(4, 2), 5);
+        refused("comb with what is no equation", z, z.comb(4, 0), 5);
+        refused("eqmp of what is no equation", z, z.eqmp(2, 3), 5);
+        refused("abs of what is no equation", z, z.abs(1, 5), 5);
+        refused("sym of what is no equation", z, z.sym(2), 5);
         due("deduct", x.deduct(1, 2), 3);
         due("deduct", concl(x, 3), "((= p) q)");
         due("p goes from the second's hyps alone", hyp(x, 3, 0) + hyp(x, 3, 1), "((= p) q)p");
@@ -786,6 +820,7 @@ public final class PromisesTest {
         }
         due("SIZE 97", x.theorem(so, 1), 97);
         refused("SIZE 101 by comb", x, x.comb(0, so), 3);
+        hypSizes();
         due("in text", x.theory(lay(x, "thm z assume n x x;thm y refl x;thm w inst z x " + t)), 16);
         due("SIZE of a def's theorem isn't asked",
             x.theory(lay(x, "def d=\\x:i." + bigBody())), 17);
@@ -797,6 +832,25 @@ public final class PromisesTest {
         due("99", x.theorem(18, 1), 99);
         refused("abs at 101", x, x.abs(0, 18), 3);
         faulty(x, "thm s comb e q", 2, 13);
+    }
+
+    private static void hypSizes() {
+        TenRules x = told("var x:i;var p:o;const r:i>i;const m:i>i>i;const n:i>i>o;const h:o>o;"
+            + "var q:o;thm a assume q;thm b assume h(h p);thm d deduct b a;thm e eqmp d b");
+        due("q by h (h p), q", hyp(x, 3, 0) + hyp(x, 3, 1), "(h (h p))q");
+        due("q", concl(x, 3), "q");
+        String one = "(m x x)";
+        String two = "(m " + one + one + ")";
+        String three = "(m " + two + two + ")";
+        String most = "n(m(m " + three + "(m " + one + "(r(r x))))(m " + three + "(m " + one + " x)))";
+        String even = most + "((\\a:i.a)x)";
+        String odd = most + one;
+        due("3 + 89 + 4", x.term(lay(x, even), 0), 96);
+        due("3 + 89 + 5", x.term(lay(x, odd), 0), 97);
+        due("a HYP of 100", x.inst(3, 1, lay(x, even)), 4);
+        due("two of them", x.theorem(4, 0), 2);
+        refused("a HYP of 101", x, x.inst(3, 1, lay(x, odd)), 3);
+        faulty(x, "thm f inst e p " + odd, 5, 6);
     }
 
     /** SIZE 99 with the x that a lambda binds. */
@@ -1082,6 +1136,23 @@ public final class PromisesTest {
             + "in no else in no else in no else in no else in no else no;" + lambdas)), 3);
         due("each call begins anew", x.convert(lay(x, eight + "right no else all then all;" + DEEP)),
             2);
+    }
+
+    /** More than a first guess of how many conversions stand within one another. */
+    private static void manyFrames() {
+        TenRules x = told("var x:i;const c:o;def j=\\a:i.\\a:i.\\a:i.c;def k=" + "\\a:i.".repeat(12)
+            + "j");
+        String steps = "try ".repeat(8) + "once(" + "no else ".repeat(40) + "def)";
+        int a = x.assume(lay(x, "k" + " x".repeat(15)));
+        int[] before = {x.used(0), x.used(2), x.used(6), x.about(4)};
+        int t = x.rewrite(a, lay(x, steps));
+        due("k unfolded", t, 3);
+        due("13 + 30", x.theorem(t, 1), 43);
+        due("refl x each time", x.used(0) - before[0], 15);
+        due("comb each time", x.used(2) - before[1], 15);
+        due("eqmp", x.used(6) - before[2], 1);
+        due("no more", x.about(4) - before[3], 31);
+        due("unfolded", concl(x, t), "(".repeat(15) + "\\i.".repeat(12) + "j" + " x)".repeat(15));
     }
 
     // ---- promise 30
