@@ -1,88 +1,12 @@
-import java.util.NoSuchElementException;
-
 /** For each promise what the document says of it: ordinary inputs, edges, wrong inputs. */
-public final class PromisesTest {
-    private static final int NONE = TenRules.NONE;
+public final class PromisesTest extends Checks {
     private static final String START =
         "var x : i;var y : i;var p : o;var f : i > i;const c : i;const g : i > i > o";
     /** Under f in twelve brackets: 25 in SIZE, twelve COMBS, no place for any conversion. */
     private static final String DEEP = "f(f(f(f(f(f(f(f(f(f(f(f x)))))))))))";
 
-    private static int wrong;
-    private static int asked;
-
-    private static void due(String what, int got, int want) {
-        asked++;
-        if (got != want) {
-            wrong++;
-            System.out.println(what + ": answered " + got + ", due is " + want);
-        }
-    }
-
-    private static void due(String what, String got, String want) {
-        asked++;
-        if (!got.equals(want)) {
-            wrong++;
-            System.out.println(what + ": written " + got + ", due is " + want);
-        }
-    }
-
-    /** Feeds a text, filled up with blanks, and answers its length. */
-    private static int lay(TenRules x, String text) {
-        String all = text + " ".repeat((20 - text.length() % 20) % 20);
-        for (int i = 0; i < all.length(); i += 20) {
-            int[] n = new int[5];
-            for (int k = 0; k < 20; k++) {
-                n[k / 4] = n[k / 4] << 8 | all.charAt(i + k);
-            }
-            x.feed(n[0], n[1], n[2], n[3], n[4]);
-        }
-        return text.length();
-    }
-
-    private static TenRules told(String theory) {
-        TenRules x = new TenRules();
-        tell(x, theory);
-        return x;
-    }
-
-    private static int tell(TenRules x, String theory) {
-        int count = x.theory(lay(x, theory));
-        if (count == NONE) {
-            wrong++;
-            System.out.println("refused: " + theory + " (" + x.fault() + " at " + x.where() + ")");
-        }
-        return count;
-    }
-
     private static TenRules start() {
         return told(START);
-    }
-
-    private static String last(TenRules x) {
-        StringBuilder s = new StringBuilder();
-        for (int k = 0; x.octet(k) >= 0; k++) {
-            s.append((char) x.octet(k));
-        }
-        return s.toString();
-    }
-
-    private static String concl(TenRules x, int t) {
-        x.writeOf(t, NONE);
-        return last(x);
-    }
-
-    private static String hyp(TenRules x, int t, int i) {
-        x.writeOf(t, i);
-        return last(x);
-    }
-
-    private static void refused(String what, TenRules x, int got, int trouble) {
-        due(what, got, NONE);
-        due(what + ", trouble", x.trouble(), trouble);
-        if (trouble != 4) {
-            due(what + ", where", x.where(), NONE);
-        }
     }
 
     private static void faulty(TenRules x, String theory, int fault, int place) {
@@ -95,15 +19,6 @@ public final class PromisesTest {
         int[] after = {x.about(0), x.about(1), x.about(2), x.about(4)};
         for (int i = 0; i < 4; i++) {
             due(theory + ", state", after[i], before[i]);
-        }
-    }
-
-    private static boolean throwsNoSuch(TenRules x, int n) {
-        try {
-            x.named(n);
-            return false;
-        } catch (NoSuchElementException e) {
-            return true;
         }
     }
 
@@ -141,10 +56,7 @@ public final class PromisesTest {
         unfolding();
         names();
         troubles();
-        System.out.println(asked + " asked, " + wrong + " wrong");
-        if (wrong > 0) {
-            System.exit(1);
-        }
+        end();
     }
 
     // ---- promises 1 and 2
