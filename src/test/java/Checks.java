@@ -114,6 +114,17 @@ abstract class Checks {
         return "n" + sized(left) + sized(size - 3 - left);
     }
 
+    /** VARS x, p, a CONST c, and THEORIES with so many THEOREMS x = x, 75 at most. */
+    static String[] theorems(int count) {
+        String[] texts = {"var x:i;var p:o;const c:i", "", "", ""};
+        for (int i = 0; i < count; i++) {
+            String line = "thm t" + (char) ('a' + i / 26) + (char) ('a' + i % 26) + " refl x";
+            int part = 1 + i / 25;
+            texts[part] += (texts[part].isEmpty() ? "" : ";") + line;
+        }
+        return texts;
+    }
+
     // ---- what is seen
 
     static String last(TenRules x) {

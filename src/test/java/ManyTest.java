@@ -174,17 +174,6 @@ public final class ManyTest extends Checks {
         due("the tenth's bit", told(TEN_CONSTS, "thm n refl k").theorem(0, 5), 512);
     }
 
-    /** THEORIES with so many THEOREMS in all. */
-    private static String[] theorems(int count) {
-        String[] texts = {"var x:i;var p:o;const c:i", "", "", ""};
-        for (int i = 0; i < count; i++) {
-            String line = "thm t" + (char) ('a' + i / 26) + (char) ('a' + i % 26) + " refl x";
-            int part = 1 + i / 25;
-            texts[part] += (texts[part].isEmpty() ? "" : ";") + line;
-        }
-        return texts;
-    }
-
     private static void sixtyOneTheorems() {
         String[] some = theorems(59);
         String[] all = theorems(60);
