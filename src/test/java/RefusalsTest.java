@@ -408,6 +408,9 @@ public final class RefusalsTest extends Checks {
             refuses("term " + what + " of 21", scene("f x"), x -> x.term(21, number), 2);
             faulty("term " + what + " of f f", scene("f f"), x -> x.term(3, number), TYPE, 2);
         }
+        answers("of TYPE o", scene("g x x"), x -> x.term(5, 4), 1);
+        answers("of TYPE o", scene("p"), x -> x.term(1, 4), 1);
+        answers("of another", scene("\\a:i.p"), x -> x.term(6, 4), 0);
         String deep = "\\a:i.".repeat(12) + "a";
         answers("twelve \\", scene(deep), x -> x.term(deep.length(), 1), 12);
         answers("none", scene("x"), x -> x.term(1, 1), 0);
@@ -605,6 +608,8 @@ public final class RefusalsTest extends Checks {
         refuses("5 ahead of sym()'s 3", new Scene(unlike, SIZED), x -> x.decide(unlike.length()), 5);
         String dear = "m(" + chain + ")(" + chain.substring(2, chain.length() - 1) + ")=x";
         refuses("NORMAL's 3", new Scene(dear, SIZED), x -> x.decide(dear.length()), 3);
+        String second = "x=m(" + chain + ")(" + chain.substring(2, chain.length() - 1) + ")";
+        refuses("the second NORMAL's 3", new Scene(second, SIZED), x -> x.decide(second.length()), 3);
     }
 
     // ---- 3: a 61st THEOREM, behind all other refusals

@@ -155,6 +155,8 @@ public final class TextBoundsTest extends Checks {
             due("const " + length, x.term(lay(x, "z".repeat(length)), 3), 1 << length - 1);
             x.write(lay(x, "z".repeat(length)));
             due("written", last(x), "z".repeat(length));
+            x.write(lay(x, "a".repeat(length)));
+            due("written", last(x), "a".repeat(length));
         }
         for (String name : new String[] {"ab", "aaab", "aaaaab", "az", "b", "y", "zy", "zzzzzy"}) {
             faulty("thm q refl " + name, NAME, 11, "var a:i;var aa:i;var aaa:i;var aaaa:i;var aaaaa:i;"
