@@ -54,8 +54,16 @@ public final class RoomTest {
                 x.normal(n);
             } else if (kind == 1) {
                 x.convert(n);
-            } else {
+            } else if (kind == 2) {
                 x.term(n, 5);
+            } else if (kind == 3) {
+                x.write(n);
+            } else if (kind == 4) {
+                x.writeType(n);
+            } else {
+                x.theory(n);
+                x.fresh();
+                x.theory(lay(x, THEORY));
             }
             if (x.about(2) == 60) {
                 x.fresh();
@@ -84,6 +92,9 @@ public final class RoomTest {
         count("normal forms", 0, "(\\b:i>i.t b (", ")) f", 170_000);
         count("refused conversions", 1, "rep once by a;", "", 100_000);
         count("terms", 2, "\\b:i.g (", ") b", 100_000);
+        count("written terms", 3, "\\b:i.g (", ") b", 100_000);
+        count("written types", 4, "\\b:i.g (", ") b", 100_000);
+        count("theories", 5, "thm z refl ", "", 120_000);
         if (wrong > 0) {
             System.exit(1);
         }
