@@ -2074,7 +2074,6 @@ public final class TenRules {
         }
     }
 
-
     /** Reads CONVS and keeps the one read last as nodes of its own. */
     private static final class Conv {
         static final int ALL = 0;

@@ -172,6 +172,30 @@ public final class RandomRunsTest {
         return anyTheorem();
     }
 
+    /** Mostly of two THEOREMS that the RULE can be used of, if there are any. */
+    private void callOfTwo(String rule, int t, int u) {
+        ArrayList<int[]> pairs = new ArrayList<>();
+        int count = random.nextInt(4) == 0 ? 0 : model.now.thms.size();
+        for (int i = 0; i < count; i++) {
+            for (int k = 0; k < count; k++) {
+                if (fit(rule, model.now.thms.get(i).thm, model.now.thms.get(k).thm)) {
+                    pairs.add(new int[] {i, k});
+                }
+            }
+        }
+        int[] pair = pairs.isEmpty() ? new int[] {t, u} : pairs.get(random.nextInt(pairs.size()));
+        call(rule, pair[0], pair[1]);
+    }
+
+    private static boolean fit(String rule, Model.Thm one, Model.Thm other) {
+        if (one.left() == null || other.left() == null && !rule.equals("eqmp")) {
+            return false;
+        }
+        return rule.equals("comb") ? Model.fits(one.left(), other.left())
+            : rule.equals("trans") ? Model.like(one.right(), other.left())
+            : Model.like(one.left(), other.concl());
+    }
+
     private void go() {
         if (random.nextInt(12) != 0) {
             call("theory", feed(texts.opening()));
@@ -206,12 +230,12 @@ public final class RandomRunsTest {
                 call("octet", random.nextInt(40) - 3);
             }
             case 11 -> call("refl", feed(texts.anyTerm()));
-            case 12 -> call("trans", equation(), equation());
-            case 13 -> call("comb", equation(), equation());
+            case 12 -> callOfTwo("trans", equation(), equation());
+            case 13 -> callOfTwo("comb", equation(), equation());
             case 14 -> call("abs", anyVar(), equation());
             case 15 -> call("beta", feed(texts.redex()));
             case 16, 17 -> call("assume", feed(texts.truth()));
-            case 18 -> call("eqmp", equation(), anyTheorem());
+            case 18 -> callOfTwo("eqmp", equation(), anyTheorem());
             case 19 -> call("deduct", anyTheorem(), anyTheorem());
             case 20, 21 -> {
                 int v = anyVar();
